@@ -737,9 +737,10 @@ public final class ThroneBacks {
 
         boolean needSign(char sign) {
             if (!isAt(sign)) {
-                return failHere(FAULT_PLACE);
+                return fail(FAULT_PLACE, at);
             }
-            step();
+            at++;
+            skipBlanks();
             return true;
         }
 

@@ -107,6 +107,13 @@ public final class AskedPromisesTest extends PromiseTest {
         law(z, "0");
         due("roster: to one who is too tired none is given", z.roster(3), 0);
         due("roster: so the other one", z.gives(0, 3) * 10 + z.gives(1, 3), 11);
+        ThroneBacks u = courtOf(COURT);
+        due("gives: ahead of any roster", u.gives(2, 4), 1);
+        due("gives: by other councils", u.gives(0, 1), 0);
+        work(u, "sit 0 0;");
+        law(u, "4+tired+day*50");
+        due("roster: as tired as now", u.roster(1), 4);
+        due("roster: as tired as now, given", u.gives(0, 1), 1);
         ThroneBacks w = new ThroneBacks();
         court(w, "council 1 1;");
         due("roster: without backs", w.roster(1), -1);
@@ -217,6 +224,19 @@ public final class AskedPromisesTest extends PromiseTest {
         law(x, "back*(lie+most[lie-1,0])");
         book(x, "2 10;0 0;");
         due("look: how tired back 1 would be", x.look(0) * 100 + x.look(1), 106);
+        ThroneBacks u = courtOf("back 99 0;back 9 0;council 9 0;council 9 1;council 4 1;king 9;");
+        due("look: ahead of any fits", u.look(1), 3);
+        law(u, "999");
+        due("look: the heaviest of all", u.look(0) * 100 + u.look(1), 3);
+        book(u, "0 135;");
+        due("fits: the heaviest of all", u.fits(0) * 1000 + u.fits(1), 2000);
+        due("look: two are left of it", u.look(0) * 100 + u.look(1), 102);
+        law(u, "day*20+tired");
+        book(u, "0 0;1 0;");
+        due("fits: as it is now", u.fits(0), 6);
+        ThroneBacks t = courtOf("back 99 0;council 9 0;council 9 1;council 4 1;king 9;");
+        law(t, "999");
+        due("look: alike ones of most burden", t.look(1), 2);
         ThroneBacks y = courtOf("back 99 0;council 4 1;council 4 1;council 4 2;king 9;");
         due("look: two alike councils", y.look(1), 2);
         ThroneBacks z = new ThroneBacks();
@@ -348,6 +368,8 @@ public final class AskedPromisesTest extends PromiseTest {
         due("heaviest: of none", x.heaviest(0, 0) * 10 + x.heaviest(0, 1), 0);
         law(x, "60-9*hours");
         due("heaviest: another", x.heaviest(1, 0) * 100 + x.heaviest(1, 1), 24);
+        law(x, "20+day*hours");
+        due("heaviest: now, not later", x.heaviest(1, 1), 40);
         noArgument("heaviest, what 2", () -> x.heaviest(0, 2));
         noArgument("heaviest, what -1", () -> x.heaviest(0, -1));
         noElement("heaviest: no back", () -> x.heaviest(3, 2));
@@ -444,6 +466,8 @@ public final class AskedPromisesTest extends PromiseTest {
         due("bearers: not who lies", x.bearers(1), 5);
         law(x, "0");
         due("bearers: not who lies, by any law", x.bearers(1), 5);
+        law(x, "day*40");
+        due("bearers: now, not later", x.bearers(2), 5);
         noElement("bearers: no council", () -> x.bearers(3));
         noElement("bearers: no council below 0", () -> x.bearers(-1));
     }

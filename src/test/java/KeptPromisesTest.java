@@ -57,8 +57,39 @@ public final class KeptPromisesTest extends PromiseTest {
         due("restore the first: undo", x.undo(), 0);
         due("restore the first: undone", x.told(7) + x.told(3) + x.told(4), 0);
         due("restore: none is left", x.restore(), -1);
+        restoreWithItsPast();
         work(x, "hold 0;");
         due("restore: none, nothing is done", x.restore() * 10 + x.told(10), -9);
+    }
+
+    private static void restoreWithItsPast() {
+        ThroneBacks x = courtOf("back 99 9;back 99 9;council 4 9;king 1;");
+        work(x, "sit 0 0;tell 0 1;");
+        work(x, "sit 1 0;");
+        x.image();
+        x.undo();
+        x.undo();
+        work(x, "day;day;");
+        work(x, "hold 1;");
+        x.restore();
+        due("restore: of itself", x.hearing(1, 0), 0);
+        due("restore: its past, not the later one", x.undo() * 10 + x.hearing(1, 0), 11);
+        due("restore: no days", x.told(3) + x.told(4), 0);
+        due("restore: its first", x.undo() * 10 + x.told(8), 0);
+        work(x, "again 16[day;];");
+        for (int i = 0; i < 15; i++) {
+            work(x, "day;");
+        }
+        x.image();
+        for (int i = 0; i < 16; i++) {
+            x.undo();
+        }
+        work(x, "hold 1;");
+        x.restore();
+        due("restore: 16 works", x.count(2), 16);
+        for (int i = 15; i >= 0; i--) {
+            due("restore: each of 16 is undone", x.undo() * 100 + x.told(3), i * 100 + (i == 0 ? 0 : i + 15));
+        }
     }
 
     private static void promise40() {

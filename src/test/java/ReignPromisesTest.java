@@ -46,6 +46,12 @@ public final class ReignPromisesTest extends PromiseTest {
         law(y, "40*knows");
         // Sits 3 0 (0 borne, knows then), tells 0 1 (nothing), sits 2 0 at 40: 26 is left of it.
         reign(y, 1, 16, 1, 2, 0, 26, 1);
+        ThroneBacks z = courtOf("back 99 1;back 99 0;council 4 9;");
+        law(z, "20*knows");
+        // By SEED 2 908, 22817, 10239, 12914, 25837, 27095, ..: sits 0 0, tells 0 1 (15 is below 16), sits 1 0 by 20.
+        reign(z, 2, 16, 1, 2, 0, 15, 1);
+        // 15 is not below 15: sits 0 0, sits 0 0 by 20.
+        reign(z, 2, 15, 1, 2, 0, 14, 1);
     }
 
     private static void promise36Falls() {
@@ -114,6 +120,8 @@ public final class ReignPromisesTest extends PromiseTest {
         int over = Integer.MAX_VALUE;
         int lying = (x.reign(over, 3, 12, 1) & 1) + (x.reign(Integer.MIN_VALUE, 3, 12, 1) & 1);
         due("span: seeds wrap", x.span(over, 2, 3, 12, 2, 0), lying);
+        due("span: no tellings, one day", x.span(77, 1, 0, 1, 0, 0), x.reign(77, 0, 1, 0));
+        due("span: 16 of 16, 48 days", x.span(77, 1, 16, 48, 1, 0), x.reign(77, 16, 48, 0));
         int[][] wrong = {{1, 0, 1, 1, 0, 0}, {1, 11, 1, 1, 0, 0}, {1, 1, -1, 1, 0, 0}, {1, 1, 17, 1, 0, 0},
             {1, 1, 1, 0, 0, 0}, {1, 1, 1, 49, 0, 0}, {1, 1, 1, 1, -1, 0}, {1, 1, 1, 1, 3, 0}, {1, 1, 1, 1, 0, 3},
             {1, 1, 1, 1, 1, -1}, {1, 1, 1, 1, 2, 3}};

@@ -72,7 +72,7 @@ public final class TextPromisesTest extends PromiseTest {
         ThroneBacks x = courtOf(COURT);
         law(x, "7");
         book(x, "0 3;");
-        work(x, "sit 0 0;hold 3;hold 3;day;");
+        work(x, "sit 0 0;sit 2 2;hold 3;hold 3;day;tell 0 1;sit 0 2;");
         x.image();
         due("court: faulty, all stays", court(x, "back 5 5;kong"), -9);
         due("court: faulty, day stays", x.told(3), 1);
@@ -85,6 +85,13 @@ public final class TextPromisesTest extends PromiseTest {
         due("court: anew", court(x, COURT), 3);
         for (int what : new int[] {3, 4, 5, 6, 7, 8, 9, 10}) {
             due("court: anew, told " + what, x.told(what), 0);
+        }
+        for (int back = 0; back < 3; back++) {
+            due("court: anew, nobody bore " + back, x.back(back, 5) + x.back(back, 6), 0);
+            due("court: anew, how tired " + back, x.back(back, 2) + x.back(back, 3) + x.back(back, 4), 0);
+        }
+        for (int council = 0; council < 3; council++) {
+            due("court: anew, not borne " + council, x.council(council, 2) + x.council(council, 4), 0);
         }
         due("court: anew, no law", x.load(0, 0), 21);
         due("court: anew, no images", x.count(0), 0);
@@ -119,6 +126,10 @@ public final class TextPromisesTest extends PromiseTest {
         courtFault("  queen 1;", 1, 2);
         courtFault("King 1;", 1, 0);
         courtFault("kin", 1, 0);
+        courtFault("xing 1;", 1, 0);
+        courtFault("kinx 1;", 1, 0);
+        courtFault("kingz 1;", 1, 0);
+        courtFault("kingA 1;", 1, 4);
         courtFault(";", 1, 0);
         courtFault("king 1;;", 1, 7);
         courtFault("back -1 0;", 1, 5);
@@ -456,6 +467,12 @@ public final class TextPromisesTest extends PromiseTest {
         due("undo: how tired", x.told(6), 11);
         due("undo: how often a back bore", x.back(2, 5) * 10 + x.back(2, 6), 0);
         due("undo: held stays", x.told(4), 2);
+        ThroneBacks y = courtOf("back 99 9;back 99 9;council 4 9;king 1;");
+        work(y, "sit 0 0;tell 0 1;");
+        work(y, "sit 1 0;");
+        due("undo: of itself ahead of it", y.hearing(1, 0), 0);
+        y.undo();
+        due("undo: by hearing behind it", y.hearing(1, 0), 1);
         due("undo: the law stays", x.load(0, 0), 5);
         due("undo: the book stays", x.told(9), 1);
         due("undo: the first", x.undo(), 0);
