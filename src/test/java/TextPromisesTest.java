@@ -342,7 +342,10 @@ public final class TextPromisesTest extends PromiseTest {
         due("agains of 0", work(y, "again 0[day;];day;"), 1);
         due("agains in agains", work(y, "again 2[again 3[day;];again 2[again 2[day;];];];"), 14);
         due("agains in agains, six open", work(y, "again 1[again 2[again 1[again 2[again 1[again 2[day;];];];];];];"), 8);
-        for (int i = 4; i <= 16; i++) {
+        String six = "again 40[".repeat(6) + "day;" + "];".repeat(6);
+        due("agains left out with six open", work(y, six), 190);
+        due("agains behind such", work(y, "again 2[day;];" + six.replace("40", "1")), 3);
+        for (int i = 6; i <= 16; i++) {
             due("works", work(y, "day;"), 1);
         }
         put(y, "dey;");
