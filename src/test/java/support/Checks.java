@@ -1,4 +1,4 @@
-/** What the project's tests share: due answers, due exceptions, and texts put on a tape. */
+/** What the project's tests share: due answers, due exceptions, texts put on a tape, and all that can be seen. */
 final class Checks {
     interface Call {
         long answer();
@@ -7,17 +7,35 @@ final class Checks {
     static final long NO_ELEMENT = -1001;
     static final long NO_ARGUMENT = -1002;
 
+    private static String under = "";
     private static int wrong;
     private static int asked;
 
     private Checks() {
     }
 
+    /** What is wrong from now on is told behind these words. */
+    static void begin(String words) {
+        under = words;
+    }
+
+    static int asked() {
+        return asked;
+    }
+
     static void due(String what, long got, long want) {
         asked++;
         if (got != want) {
             wrong++;
-            System.out.println(what + " answered " + got + ", due is " + want);
+            System.out.println(under + what + " answered " + got + ", due is " + want);
+        }
+    }
+
+    static void same(String what, String got, String want) {
+        asked++;
+        if (!got.equals(want)) {
+            wrong++;
+            System.out.println(under + what + " is " + got + ", due is " + want);
         }
     }
 
@@ -58,7 +76,7 @@ final class Checks {
         ThroneBacks x = new ThroneBacks();
         if (court(x, text) < 0) {
             wrong++;
-            System.out.println("no court: " + text);
+            System.out.println(under + "no court: " + text);
         }
         return x;
     }
@@ -77,6 +95,45 @@ final class Checks {
 
     static int book(ThroneBacks x, String text) {
         return x.book(put(x, text));
+    }
+
+    /** All that WORK changes, as it can be seen. */
+    static String stateOf(ThroneBacks x) {
+        StringBuilder seen = new StringBuilder();
+        for (int what : new int[] {3, 4, 5, 6, 7, 8, 11}) {
+            seen.append(x.told(what)).append(' ');
+        }
+        for (int back = 0; back < x.told(0); back++) {
+            for (int what = 2; what < 7; what++) {
+                seen.append(x.back(back, what)).append(' ');
+            }
+            for (int council = 0; council < x.told(1); council++) {
+                seen.append(x.hearing(back, council)).append(' ');
+            }
+        }
+        for (int council = 0; council < x.told(1); council++) {
+            seen.append(x.council(council, 2)).append(' ');
+        }
+        return seen.toString();
+    }
+
+    /** All that can be seen but the tape, its fault and the refusals: court, law, book, state, images, works. */
+    static String allOf(ThroneBacks x) {
+        StringBuilder seen = new StringBuilder(stateOf(x));
+        for (int what : new int[] {0, 1, 2, 9, 10}) {
+            seen.append(x.told(what)).append(' ');
+        }
+        for (int back = 0; back < x.told(0); back++) {
+            seen.append(x.back(back, 0)).append(' ').append(x.back(back, 1)).append(' ');
+            for (int council = 0; council < x.told(1); council++) {
+                seen.append(x.load(back, council)).append(' ');
+            }
+        }
+        for (int council = 0; council < x.told(1); council++) {
+            seen.append(x.council(council, 0)).append(' ').append(x.council(council, 1)).append(' ');
+        }
+        seen.append(x.fits(0)).append(' ').append(x.fits(1)).append(' ');
+        return seen.append(x.count(0)).append(' ').append(x.count(2)).toString();
     }
 
     static void finish() {

@@ -2,8 +2,16 @@
 abstract class PromiseTest {
     static final String COURT = "back 30 5;back 60 8;back 10 0;council 4 5;council 2 1;council 8 9;king 16;";
 
+    static void sentence(int promise, String words, Runnable test) {
+        Sentences.sentence(promise, words, test);
+    }
+
     static void due(String what, long got, long want) {
         Checks.due(what, got, want);
+    }
+
+    static void same(String what, String got, String want) {
+        Checks.same(what, got, want);
     }
 
     static void noElement(String what, Checks.Call call) {
@@ -36,5 +44,13 @@ abstract class PromiseTest {
 
     static int book(ThroneBacks x, String text) {
         return Checks.book(x, text);
+    }
+
+    static String stateOf(ThroneBacks x) {
+        return Checks.stateOf(x);
+    }
+
+    static String allOf(ThroneBacks x) {
+        return Checks.allOf(x);
     }
 }
