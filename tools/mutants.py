@@ -1,11 +1,12 @@
 #!/usr/bin/env python3
 """Breaks the class in many small ways and tells which tests see it.
 
-usage: tools/mutants.py [-t Test,Test..] [-n every-nth] [-o report]
+usage: tools/mutants.py [-t Test,Test..] [-n every-nth] [-u former-report] [-o report]
 
 Each mutant changes one place of src/main/java/ThroneBacks.java. The report has, for each mutant, its line, what was
 changed, and which tests saw it; behind all, the mutants that none saw, and for each sentence (see SentencesTest) the
-mutant that it saw together with the fewest others. Not run by .ci/run: it takes some minutes.
+mutant that it saw together with the fewest others. With -u only those that a former report, by the same source, has as
+unseen. Not run by .ci/run: it takes some minutes.
 """
 import argparse
 import concurrent.futures
@@ -90,6 +91,7 @@ def main():
     parser = argparse.ArgumentParser()
     parser.add_argument('-t', default='SentencesTest')
     parser.add_argument('-n', type=int, default=1)
+    parser.add_argument('-u')
     parser.add_argument('-o', default='/tmp/mutants.txt')
     options = parser.parse_args()
     tests = options.t.split(',')
@@ -99,6 +101,10 @@ def main():
     with open(SOURCE) as file:
         text = file.read()
     jobs = [(i,) + m + (tests, text) for i, m in enumerate(mutants(text)) if i % options.n == 0]
+    if options.u:
+        with open(options.u) as former:
+            numbers = {int(n) for n in re.findall(r'^(\d+) line .*: UNSEEN$', former.read(), re.M)}
+        jobs = [job for job in jobs if job[0] in numbers]
     told = set()
     words = subprocess.run(['java', '-Dtold=yes', '-cp', CLASSES, 'SentencesTest'], cwd=ROOT, capture_output=True, text=True)
     told |= set(re.findall(r'^(promise \d+, ".*?"): told$', words.stdout, re.M))

@@ -38,6 +38,7 @@ public final class FaceTest {
             int want = isNone ? Modifier.PUBLIC | Modifier.STATIC | Modifier.FINAL : f.getModifiers() | Modifier.PRIVATE;
             Checks.due("field " + f.getName(), f.getModifiers(), want);
         }
+        Checks.due("NONE", ThroneBacks.NONE, -1);
         checkInside(c, names);
         Checks.finish();
     }

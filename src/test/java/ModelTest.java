@@ -8,7 +8,7 @@ import java.util.Random;
 
 /** Runs of calls made by fixed seeds: ThroneBacks and the model must answer each of them alike. */
 public final class ModelTest {
-    private static final int RUNS = 400;
+    private static final int RUNS = 1_500;
     private static final String[] READS = {"court", "law", "work", "book"};
     private static final String[] RARE = {"feed", "court", "law", "work", "book"};
 

@@ -92,6 +92,8 @@ final class BookSentences extends PromiseTest {
             due("a fault less 10", book(x, "0 1;1"), -9);
             due("the book stays", x.told(9), 2);
             due("empty behind a fault", x.count(1), 0);
+            put(x, "0 12;");
+            due("a number is cut", x.book(3) * 10 + x.fault(), -87);
             put(x, "0 1;");
             due("none of 20", x.book(0) * 10 + x.told(9), 0);
             due("empty behind none", x.count(1), 0);

@@ -104,9 +104,14 @@ final class CorridorSentences extends PromiseTest {
             due("by most", y.rumour(0, 0) * 10 + y.rumour(0, 1), 2);
             work(y, "tell 0 2;");
             due("by more", y.rumour(0, 0) * 10 + y.rumour(0, 1), 23);
-            law(y, "9");
-            work(y, "sit 2 1;sit 3 1;tell 2 0;");
-            due("who lies, too", y.rumour(0, 0) * 10 + y.rumour(0, 1), 23);
+            ThroneBacks w = courtOf(FOUR);
+            work(w, "sit 1 0;tell 1 3;");
+            law(w, "9");
+            work(w, "sit 3 1;");
+            due("who lies, too", w.told(5) * 100 + w.rumour(0, 0) * 10 + w.rumour(0, 1), 831);
+            ThroneBacks z = courtOf("back 99 9;".repeat(7) + "council 1 1;".repeat(12));
+            work(z, "sit 0 11;tell 0 6;");
+            due("the last back, the last council", z.rumour(11, 0) * 10 + z.rumour(11, 1), 61);
             noArgument("what 2", () -> x.rumour(0, 2));
         });
         sentence(34, "NONE both: none KNOWS it.", () -> {

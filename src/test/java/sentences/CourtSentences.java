@@ -171,6 +171,10 @@ final class CourtSentences extends PromiseTest {
             king("king8;", 8);
             fault("kingk 1;", 1, 0);
             fault("kin 1;", 1, 0);
+            fault("xing 1;", 1, 0);
+            fault("kinx 1;", 1, 0);
+            fault("kink 1;", 1, 0);
+            fault("ling 1;", 1, 0);
             fault("k ing 1;", 1, 0);
             fault("King 1;", 1, 0);
             fault("kinG 1;", 1, 0);
@@ -202,6 +206,10 @@ final class CourtSentences extends PromiseTest {
             put(x, "king 3;king 99;");
             due("empty behind a fault", x.court(15) * 100 + x.count(1), -800);
             due("nothing of it is left", court(x, "king 5;") * 100 + x.told(2), 5);
+            put(x, "king 41;");
+            due("a word is cut", x.court(3) * 10 + x.fault(), -90);
+            put(x, "king 41;");
+            due("a number is cut", x.court(6) * 10 + x.fault(), -84);
             put(x, "king 41;");
             due("none of 20", x.court(0) * 100 + x.count(1), 0);
             due("no king then", x.told(2), 20);
@@ -259,6 +267,7 @@ final class CourtSentences extends PromiseTest {
             same("all stays", allOf(x), ahead);
             due("the fault stays", x.fault(), 2);
             due("20 of 20", x.court(20) * 100 + x.told(2), 3);
+            due("0 of none", Checks.outcome(() -> x.court(0)) * 100 + x.told(2), 20);
         });
     }
 }

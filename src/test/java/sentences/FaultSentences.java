@@ -135,6 +135,7 @@ final class FaultSentences extends PromiseTest {
             due("of a court", x.fault(), 7);
             book(x, "0 0 ");
             due("of a book", x.fault(), 4);
+            work(x, "day;");
             work(x, "day;dey;");
             due("of a work", x.fault(), 4);
             noArgument("no text", () -> x.law(99));
@@ -179,6 +180,11 @@ final class FaultSentences extends PromiseTest {
             due("law and book stay", x.load(0, 0) * 10 + x.told(9), 51);
             due("the first", x.undo(), 0);
             same("as at first", stateOf(x), stateOf(courtOf(COURT)));
+            ThroneBacks y = courtOf("back 99 9;".repeat(7) + "council 4 9;".repeat(12) + "king 1;");
+            work(y, "sit 0 11;tell 0 6;");
+            work(y, "sit 6 11;");
+            due("known of itself ahead of it", y.hearing(6, 11), 0);
+            due("by hearing behind it", y.undo() * 10 + y.hearing(6, 11), 11);
         });
         sentence(8, "how many are left", () -> {
             ThroneBacks x = courtOf(COURT);

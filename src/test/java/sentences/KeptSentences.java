@@ -8,6 +8,26 @@ final class KeptSentences extends PromiseTest {
         promise41();
     }
 
+    private static void sixteenWorks() {
+        ThroneBacks x = courtOf(COURT);
+        work(x, "again 16[day;];");
+        for (int i = 0; i < 15; i++) {
+            work(x, "day;");
+        }
+        x.image();
+        for (int i = 0; i < 16; i++) {
+            x.undo();
+        }
+        for (int i = 1; i <= 16; i++) {
+            work(x, "hold " + i + ";");
+        }
+        x.restore();
+        due("16 works", x.count(2), 16);
+        for (int i = 15; i >= 0; i--) {
+            due("each of 16 is undone", x.undo() * 100 + x.told(3) + x.told(4), i * 100 + (i == 0 ? 0 : i + 15));
+        }
+    }
+
     private static void promise38() {
         sentence(38, "An IMAGE of all that WORK changes, and of the WORKS that can be undone", () -> {
             ThroneBacks x = courtOf(COURT);
@@ -29,6 +49,16 @@ final class KeptSentences extends PromiseTest {
             same("its past, not the later one", stateOf(x), first);
             x.undo();
             same("its first", stateOf(x), stateOf(courtOf(COURT)));
+            ThroneBacks y = courtOf("back 99 9;".repeat(7) + "council 4 9;".repeat(12) + "king 1;");
+            work(y, "sit 0 11;tell 0 6;");
+            work(y, "sit 6 11;");
+            y.image();
+            y.undo();
+            due("by hearing ahead of it", y.hearing(6, 11), 1);
+            y.restore();
+            due("of itself behind it", y.hearing(6, 11), 0);
+            due("by hearing, undone", y.undo() * 10 + y.hearing(6, 11), 11);
+            sixteenWorks();
         });
         sentence(38, "how many there are", () -> {
             ThroneBacks x = new ThroneBacks();

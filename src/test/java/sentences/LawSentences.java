@@ -276,6 +276,12 @@ final class LawSentences extends PromiseTest {
             due("a fault less 10", law(x, "7+1000"), -8);
             due("all stays", x.load(0, 0), 16);
             due("empty behind a fault", x.count(1), 0);
+            put(x, "heldlie");
+            due("the first 3, of a word", x.law(3) * 10 + x.fault(), -90);
+            put(x, "heldlie");
+            due("the first 4, a word", x.law(4), 1);
+            put(x, "71");
+            due("the first digit", x.law(1) * 10 + x.load(0, 0), 17);
             due("no law of no bytes", x.law(0) * 100 + x.fault(), -900);
         });
         sentence(4, "Likewise the LAW (n to 150)", () -> {

@@ -173,6 +173,9 @@ final class ShareSentences extends PromiseTest {
             balm(x, 7, 51, 21, 22, 8);
             balm(x, 5, 20, 12, 0, 8);
             balm(x, 2, 20, 0, 20, 0);
+            ThroneBacks y = courtOf("back 99 9;".repeat(7) + "council 4 0;");
+            work(y, "sit 6 0;sit 0 0;");
+            balm(y, 127, 11, 5, 0, 0, 0, 0, 0, 5);
             work(x, "sit 2 0;");
             due("who lies is told, too", x.told(5) * 10 + x.balm(2, 4, 9), 49);
         });

@@ -163,7 +163,9 @@ final class WorkSentences extends PromiseTest {
             ThroneBacks z = courtOf(COURT);
             due("not each of its turns", work(z, "again 40[day;];again 40[day;];again 40[day;];again 40[day;];again 35[day;];"), 195);
             ThroneBacks w = courtOf(COURT);
-            due("six open", work(w, "again 40[".repeat(6) + "day;" + "];".repeat(6)), 190);
+            String six = "again 40[".repeat(6) + "day;" + "];".repeat(6);
+            due("six open", work(w, six), 190);
+            due("none is open in the next work", work(w, "again 2[day;];" + six.replace("40", "1")), 3);
         });
         sentence(5, "REFUSED ones, too)", () -> {
             ThroneBacks x = courtOf(COURT);
@@ -191,6 +193,10 @@ final class WorkSentences extends PromiseTest {
             }
             due("nothing is done", x.told(3) + x.count(2), 0);
             due("the first 8", x.work(8) * 10 + x.told(3), 22);
+            put(x, "days;");
+            due("a word is cut", x.work(3) * 10 + x.fault(), -87);
+            put(x, "hold 12;");
+            due("a number is cut", x.work(6) * 10 + x.fault(), -84);
             due("empty then", x.count(1), 0);
             noArgument("1 of none", () -> x.work(1));
         });

