@@ -1294,7 +1294,9 @@ public final class ThroneBacks {
             if (!readSteps(tape, court, depth + 1) || !tape.needSign(']')) {
                 return false;
             }
-            second[head] = size;
+            if (head < MOST_SHORT_BYTES) {
+                second[head] = size;
+            }
             return add(END, head, 0);
         }
 
